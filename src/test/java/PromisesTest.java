@@ -358,6 +358,7 @@ public final class PromisesTest {
         due("13 law(DEEP)", x.law(DEEP), BAD);
         due("13 by the law", laid("n6;g0,5,0,1,4;g0,9,0,1,5;g0,9,0,1,1;g0,30,0,1,0;g0,1,0,1,2;").law(-1), 1);
         due("13 but one", laid("n6;g0,5,0,1,4;g0,9,0,1,5;g0,9,0,1,1;g0,30,0,1,0;g0,1,0,1,3;").law(-1), 0);
+        due("13 but the first", laid("n6;g0,5,0,1,3;g0,9,0,1,5;g0,9,0,1,1;g0,30,0,1,0;g0,1,0,1,2;").law(-1), 0);
         BedsBySnore hours = laid("n3;g2,9,0,1,0;g0,4,0,1,2;");
         due("13 in hour 0", hours.law(-1), 1);
         hours.hour();
@@ -418,6 +419,10 @@ public final class PromisesTest {
         due("15 0's bed", apart.best(0, 0), 0);
         due("15 1's bed", apart.best(0, 1), 2);
         due("15 alone in the first bed", laid("n2;g0,9,0,1,1;").best(7, 0), 0);
+        // all wake by anybody: of five in six beds but one can lie alone
+        BedsBySnore light = laid("g0,30,0,1,0;g0,30,0,1,1;g0,30,0,1,2;g0,30,0,1,3;g0,30,0,1,4;");
+        due("15 four of five wake", light.best(0, -1), 4);
+        due("15 the last one lies alone first of all", light.best(0, 3) * 10 + light.best(0, 4), 35);
         // 1 wakes by anybody, so he is to lie alone; 0 and 2 bear one another
         bestIs("n4;g0,5,0,10,0;g2,5,0,1,1;g0,9,0,9,2;r5;", 0, 0, 31);
         // 0 does not bear 2: one wakes in any way, and the first way of all is as good as any
@@ -450,6 +455,9 @@ public final class PromisesTest {
         y.stuff(1);
         due("16 none helps: the first that is not", y.wallTo(0), 0);
         due("16 as many as now", y.wallTo(1), 16);
+        BedsBySnore last = laid("n6;g0,6,0,4,5;g0,6,0,4,4;r5;");
+        due("16 the last wall", last.wallTo(0), 4);
+        due("16 nobody then", last.wallTo(1), 0);
         BedsBySnore z = laid("n3;g0,6,0,4,1;w0;w1;");
         due("16 all are stuffed", z.wallTo(0), NONE);
         due("16 all are stuffed, how many", z.wallTo(1), NONE);
