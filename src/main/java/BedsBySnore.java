@@ -178,7 +178,7 @@ public final class BedsBySnore {
         int fewest = MOST_GUESTS + 1;
         int first = 0;
         tried.copy(now);
-        for (int way = 0; way < ways.total(); way++) {
+        for (int way = 0; way < ways.total() && fewest > 0; way++) {
             ways.spread(way, tried.places);
             int woken = Integer.bitCount(inn.wakers(tried, hour));
             if (woken < fewest) {
@@ -718,11 +718,8 @@ public final class BedsBySnore {
             return Math.abs(notes[i] - notes[j]) == roomNote || notes[i] + notes[j] == roomNote;
         }
 
-        /** What a guest hears of another one: nothing but from the next bed. */
+        /** What a guest hears of another one on a next bed. */
         int soundOf(int other, int i, Lie lie, int hour) {
-            if (!lie.areNext(other, i)) {
-                return 0;
-            }
             int loud = loudness(other, hour);
             if (lie.isStuffed(Math.min(lie.placeOf(other), lie.placeOf(i)))) {
                 loud /= 2;
@@ -733,7 +730,9 @@ public final class BedsBySnore {
         int hearing(int i, Lie lie, int hour) {
             int sum = 0;
             for (int j = 0; j < guests; j++) {
-                sum += soundOf(j, i, lie, hour);
+                if (lie.areNext(i, j)) {
+                    sum += soundOf(j, i, lie, hour);
+                }
             }
             return sum;
         }
@@ -770,6 +769,10 @@ public final class BedsBySnore {
             return bits;
         }
 
+        boolean isRousedByPorters(int i) {
+            return lightnessOf(i) <= porters;
+        }
+
         /** Who wakes by it if one is carried to a bed: those that he is carried past. */
         int roused(int i, int b, Lie lie) {
             int low = Math.min(lie.placeOf(i), b);
@@ -777,7 +780,7 @@ public final class BedsBySnore {
             int bits = 0;
             for (int j = 0; j < guests; j++) {
                 int place = lie.placeOf(j);
-                if (place > low && place < high && lightnessOf(j) <= porters) {
+                if (place > low && place < high && isRousedByPorters(j)) {
                     bits |= 1 << j;
                 }
             }
@@ -872,7 +875,8 @@ public final class BedsBySnore {
         }
 
         boolean areNext(int i, int j) {
-            return Math.abs(placeOf(i) - placeOf(j)) == 1;
+            int apart = placeOf(i) - placeOf(j);
+            return apart == 1 || apart == -1;
         }
 
         int guestIn(int b, int guests) {
@@ -1062,11 +1066,19 @@ public final class BedsBySnore {
      * carry back passes the same guests, so it wakes nobody if the carry did not.
      */
     private static final class Search {
+        private static final int EMPTY = 0;
+        private static final int SOUND = 1;
+        private static final int LIGHT = 2;
+
         private final int[] distances = new int[MOST_WAYS];
         private final int[] queue = new int[MOST_WAYS];
         private int queued;
         private final Lie at = new Lie();
 
+        /** The same by beds: EMPTY, SOUND or LIGHT each. */
+        private final int[] sleepers = new int[MOST_BEDS];
+
+        /** It ends where all lie now: whatever is nearer to the law has been measured by then. */
         void measure(Inn inn, Lie now, Ways ways) {
             Arrays.fill(distances, NONE);
             queued = 0;
@@ -1074,7 +1086,11 @@ public final class BedsBySnore {
                 at.places[i] = inn.lawfulBed(i, now.hour);
             }
             reach(ways.numberOf(at.places), 0);
-            for (int k = 0; k < queued && k < MOST_WAYS; k++) {
+            int goal = ways.numberOf(now.places);
+            if (goal < 0 || goal >= MOST_WAYS) {
+                return;
+            }
+            for (int k = 0; k < queued && k < MOST_WAYS && distances[goal] == NONE; k++) {
                 goOn(queue[k], inn, ways);
             }
         }
@@ -1091,7 +1107,7 @@ public final class BedsBySnore {
             for (int i = 0; i < inn.guests() && i < MOST_GUESTS; i++) {
                 int place = at.placeOf(i);
                 for (int b = 0; b < inn.beds(); b++) {
-                    if (isQuietCarry(inn, i, b)) {
+                    if (at.isEmpty(b, inn.guests()) && inn.roused(i, b, at) == 0) {
                         at.places[i] = b;
                         if (distanceOf(at.places, ways) == wanted) {
                             return 8 * i + b;
@@ -1101,10 +1117,6 @@ public final class BedsBySnore {
                 }
             }
             return NONE;
-        }
-
-        private boolean isQuietCarry(Inn inn, int i, int b) {
-            return at.isEmpty(b, inn.guests()) && inn.roused(i, b, at) == 0;
         }
 
         private void reach(int number, int distance) {
@@ -1123,15 +1135,40 @@ public final class BedsBySnore {
                 return;
             }
             ways.spread(number, at.places);
-            for (int i = 0; i < inn.guests() && i < MOST_GUESTS; i++) {
+            noteSleepers(inn);
+            for (int i = 0; i < inn.guests(); i++) {
+                goAside(i, 1, distances[number] + 1, inn, ways);
+                goAside(i, -1, distances[number] + 1, inn, ways);
+            }
+        }
+
+        private void noteSleepers(Inn inn) {
+            Arrays.fill(sleepers, EMPTY);
+            for (int i = 0; i < inn.guests(); i++) {
                 int place = at.placeOf(i);
-                for (int b = 0; b < inn.beds(); b++) {
-                    if (isQuietCarry(inn, i, b)) {
-                        at.places[i] = b;
-                        reach(ways.numberOf(at.places), distances[number] + 1);
-                        at.places[i] = place;
-                    }
+                if (place >= 0 && place < MOST_BEDS) {
+                    sleepers[place] = inn.isRousedByPorters(i) ? LIGHT : SOUND;
                 }
+            }
+        }
+
+        /** One is carried on bed by bed, as far as nobody wakes whom he is carried past. */
+        private void goAside(int i, int side, int distance, Inn inn, Ways ways) {
+            if (i < 0 || i >= MOST_GUESTS) {
+                return;
+            }
+            int place = at.places[i];
+            int b = place + side;
+            for (int k = 1; k < MOST_BEDS && inn.hasBed(b) && b < MOST_BEDS; k++) {
+                if (sleepers[b] == LIGHT) {
+                    return;
+                }
+                if (sleepers[b] == EMPTY) {
+                    at.places[i] = b;
+                    reach(ways.numberOf(at.places), distance);
+                    at.places[i] = place;
+                }
+                b += side;
             }
         }
     }

@@ -390,6 +390,7 @@ public final class PromisesTest {
         BedsBySnore free = laid("n3;g0,1,0,2,0;g0,2,0,2,1;c1;");
         due("14 past one who sleeps on", free.moves(0), 2);
         due("14 first", free.moves(1), 2);
+        due("14 from one end to the other", laid("n6;g0,9,0,9,5;").moves(0), 1);
         // either may go first: the lower guest does; he has one way alone
         BedsBySnore two = laid("n6;g0,9,0,9,1;g0,8,0,9,4;c0;");
         due("14 two carries", two.moves(0), 2);
@@ -611,6 +612,8 @@ public final class PromisesTest {
         oddsAre(both, 1, 10, 0, 1);
         BedsBySnore neither = laid("n4;g0,6,0,40,0;g0,0,0,14,1;g0,7,0,40,2;r5;");
         oddsAre(neither, 1, 7, 1, 1);
+        // nothing at all is heard from an empty bed
+        oddsAre(laid("n3;g0,6,0,40,0;g0,0,0,7,1;r5;"), 1, 10, 1, 1);
         // who does not snore does not hum: 4 are heard by the chance of 2 of ten
         oddsAre(laid("n3;g0,0,0,40,0;g0,0,5,4,1;r5;"), 1, 2, 4, 5);
         BedsBySnore hours = laid("n3;g2,9,0,40,0;g0,0,0,9,1;r5;");
