@@ -603,7 +603,7 @@ public final class BedsBySnore {
         }
 
         private boolean isTaken(int b) {
-            for (int i = 0; i < guests; i++) {
+            for (int i = 0; i < guests && i < MOST_GUESTS; i++) {
                 if (places[i] == b) {
                     return true;
                 }
@@ -640,7 +640,7 @@ public final class BedsBySnore {
 
         /** One feigns, and nobody else: who is told to feign is plain. */
         void supposeFeigning(int i) {
-            for (int j = 0; j < guests; j++) {
+            for (int j = 0; j < guests && j < MOST_GUESTS; j++) {
                 if (j == i) {
                     kinds[j] = FEIGNING;
                 } else if (kinds[j] == FEIGNING) {
@@ -664,7 +664,7 @@ public final class BedsBySnore {
         }
 
         boolean hasGuest(int i) {
-            return i >= 0 && i < guests;
+            return i >= 0 && i < guests && i < MOST_GUESTS;
         }
 
         boolean hasBed(int b) {
@@ -743,7 +743,7 @@ public final class BedsBySnore {
 
         int wakers(Lie lie, int hour) {
             int bits = 0;
-            for (int i = 0; i < guests; i++) {
+            for (int i = 0; i < guests && i < MOST_GUESTS; i++) {
                 if (hearing(i, lie, hour) >= lightness[i]) {
                     bits |= 1 << i;
                 }

@@ -40,22 +40,8 @@ public final class PromisesTest {
         CHECKS.due(what, got, want);
     }
 
-    private static BedsBySnore written(String text) {
-        BedsBySnore x = new BedsBySnore();
-        for (char c : text.toCharArray()) {
-            x.write(c);
-        }
-        return x;
-    }
-
-    private static BedsBySnore laid(String text) {
-        BedsBySnore x = written(text);
-        CHECKS.holds(text + " is laid", x.lay() > 0);
-        return x;
-    }
-
     private static void faultIs(String text, int want) {
-        due("fault() of " + text, written(text).fault(), want);
+        due("fault() of " + text, Inns.written(text).fault(), want);
     }
 
     private static void promise1NewObject() {
@@ -102,7 +88,7 @@ public final class PromisesTest {
     }
 
     private static void promise3Wipe() {
-        BedsBySnore x = written("n1;");
+        BedsBySnore x = Inns.written("n1;");
         due("3 wipe()", x.wipe(), 3);
         due("3 wipe() again", x.wipe(), 0);
         due("3 fault()", x.fault(), NONE);
@@ -160,11 +146,9 @@ public final class PromisesTest {
         faultIs("r0;r12;", NONE);
         faultIs("r0;r13;", 3);
         faultIs("c0;r13;n1;", 3);
-        BedsBySnore x = written("n3;g0,1");
+        BedsBySnore x = Inns.written("n3;g0,1");
         due("4 an item without an end", x.fault(), 3);
-        for (char c : ",2,3,1;".toCharArray()) {
-            x.write(c);
-        }
+        Inns.add(x, ",2,3,1;");
         due("4 and with it", x.fault(), NONE);
         due("4 nothing is laid by it", x.count(1), 6);
     }
@@ -176,14 +160,10 @@ public final class PromisesTest {
         x.stuff(0);
         x.heard(0, 0, 1);
         x.keep();
-        for (char c : "n4;w1;c3;r2;".toCharArray()) {
-            x.write(c);
-        }
+        Inns.add(x, "n4;w1;c3;r2;");
         due("5 no guest", x.lay(), NO);
         due("5 nothing changes", x.count(1) * 100 + x.count(5) * 10 + x.count(6), 631);
-        for (char c : "g3,1,2,3,1;g0,4,5,6,3;".toCharArray()) {
-            x.write(c);
-        }
+        Inns.add(x, "g3,1,2,3,1;g0,4,5,6,3;");
         due("5 lay()", x.lay(), 2);
         int[] counts = {2, 4, 0, 1, 0, 0, 0, 34};
         for (int what = 0; what < counts.length; what++) {
@@ -199,20 +179,20 @@ public final class PromisesTest {
         due("5 it stays", x.count(0), 2);
 
         // what is told last counts; what is not told is 6 beds, porters 8, note 7
-        BedsBySnore last = laid("c40;c5;r1;r3;g0,0,0,6,0;g0,0,3,5,1;");
+        BedsBySnore last = Inns.laid("c40;c5;r1;r3;g0,0,0,6,0;g0,0,3,5,1;");
         due("5 the last note", last.hums(0), 2);
         due("5 the last porters", last.carry(0, 5), 2);
         due("5 a lighter one", last.carry(1, 4), 0);
-        BedsBySnore without = laid("g0,0,0,9,0;g0,0,7,8,1;");
+        BedsBySnore without = Inns.laid("g0,0,0,9,0;g0,0,7,8,1;");
         due("5 six beds without", without.count(1), 6);
         due("5 note 7 without", without.hums(0), 2);
         due("5 porters 8 without", without.carry(0, 5), 2);
         due("5 nine is too loud for them", without.carry(1, 0), 0);
-        due("5 the last n", laid("n6;n3;g0,0,0,9,0;").count(1), 3);
+        due("5 the last n", Inns.laid("n6;n3;g0,0,0,9,0;").count(1), 3);
     }
 
     private static void promise6Guest() {
-        BedsBySnore x = laid("n6;g1,30,1,40,0;g1,10,2,20,1;g2,9,3,12,2;g3,7,11,1,4;w1;r5;");
+        BedsBySnore x = Inns.laid("n6;g1,30,1,40,0;g1,10,2,20,1;g2,9,3,12,2;g3,7,11,1,4;w1;r5;");
         // hour by hour: drunk (40 at most), drunk, fitful, feigning
         int[][] louds = {{40, 24, 9, 17}, {40, 22, 0, 17}, {40, 20, 9, 17}, {38, 18, 0, 7}, {36, 16, 9, 7},
             {34, 14, 0, 7}, {32, 12, 9, 7}, {30, 10, 0, 7}, {30, 10, 0, 7}};
@@ -222,7 +202,7 @@ public final class PromisesTest {
             }
             x.hour();
         }
-        BedsBySnore y = laid("n6;g1,30,1,40,0;g1,10,2,20,1;g2,9,3,12,2;g3,7,11,1,4;w1;r5;");
+        BedsBySnore y = Inns.laid("n6;g1,30,1,40,0;g1,10,2,20,1;g2,9,3,12,2;g3,7,11,1,4;w1;r5;");
         due("6 hears one", y.guest(0, 6), 24);
         // 40, half of 9 cut, and 4 as 2 and 3 are 5 together
         due("6 hears two", y.guest(1, 6), 40 + 4 + 4);
@@ -232,14 +212,14 @@ public final class PromisesTest {
         due("6 wakes", y.guest(1, 7), 1);
         due("6 wakes as well", y.guest(2, 7), 1);
         due("6 hears nothing, sleeps", y.guest(3, 7), 0);
-        BedsBySnore edge = laid("n3;g0,9,0,12,0;g0,12,0,10,1;r5;");
+        BedsBySnore edge = Inns.laid("n3;g0,9,0,12,0;g0,12,0,10,1;r5;");
         due("6 S wakes", edge.guest(0, 7), 1);
         due("6 one less does not", edge.guest(1, 7), 0);
         int[][] wrong = {{-1, 0}, {4, 0}, {0, -1}, {0, 8}, {FAR, 0}, {DEEP, 0}, {0, FAR}, {0, DEEP}};
         for (int[] w : wrong) {
             due("6 guest(" + w[0] + ", " + w[1] + ")", y.guest(w[0], w[1]), BAD);
         }
-        BedsBySnore silent = laid("n3;g2,9,2,40,0;g0,1,3,4,1;r1;");
+        BedsBySnore silent = Inns.laid("n3;g2,9,2,40,0;g0,1,3,4,1;r1;");
         silent.hour();
         due("6 notes hum in silent hours", silent.guest(1, 6), 4);
     }
@@ -254,12 +234,12 @@ public final class PromisesTest {
         due("7 bed(6)", x.bed(6), BAD);
         due("7 bed(FAR)", x.bed(FAR), BAD);
         due("7 bed(DEEP)", x.bed(DEEP), BAD);
-        due("7 bed(3) of three", laid("n3;g0,0,0,1,0;").bed(3), BAD);
-        due("7 bed(2) of three", laid("n3;g0,0,0,1,0;").bed(2), NONE);
+        due("7 bed(3) of three", Inns.laid("n3;g0,0,0,1,0;").bed(3), BAD);
+        due("7 bed(2) of three", Inns.laid("n3;g0,0,0,1,0;").bed(2), NONE);
     }
 
     private static void promise8Wall() {
-        BedsBySnore x = laid("n3;g0,0,0,1,0;w1;w1;");
+        BedsBySnore x = Inns.laid("n3;g0,0,0,1,0;w1;w1;");
         due("8 wall(0)", x.wall(0), 0);
         due("8 wall(1)", x.wall(1), 1);
         due("8 wall(2)", x.wall(2), BAD);
@@ -271,7 +251,7 @@ public final class PromisesTest {
     }
 
     private static void promise9Carry() {
-        BedsBySnore x = laid("n6;g0,0,0,1,0;g0,0,0,8,1;g0,0,0,9,2;g0,0,0,7,3;");
+        BedsBySnore x = Inns.laid("n6;g0,0,0,1,0;g0,0,0,8,1;g0,0,0,9,2;g0,0,0,7,3;");
         due("9 carry(0, 6)", x.carry(0, 6), BAD);
         due("9 carry(0, -1)", x.carry(0, -1), BAD);
         due("9 carry(4, 5)", x.carry(4, 5), BAD);
@@ -346,7 +326,7 @@ public final class PromisesTest {
 
     private static void promise13Law() {
         // loud 5, 9, 9, 30, 1
-        BedsBySnore x = laid("n6;g0,5,0,1,0;g0,9,0,1,1;g0,9,0,1,2;g0,30,0,1,3;g0,1,0,1,4;");
+        BedsBySnore x = Inns.laid("n6;g0,5,0,1,0;g0,9,0,1,1;g0,9,0,1,2;g0,30,0,1,3;g0,1,0,1,4;");
         int[] law = {4, 5, 1, 0, 2};
         for (int i = 0; i < law.length; i++) {
             due("13 law(" + i + ")", x.law(i), law[i]);
@@ -356,10 +336,10 @@ public final class PromisesTest {
         due("13 law(-2)", x.law(-2), BAD);
         due("13 law(FAR)", x.law(FAR), BAD);
         due("13 law(DEEP)", x.law(DEEP), BAD);
-        due("13 by the law", laid("n6;g0,5,0,1,4;g0,9,0,1,5;g0,9,0,1,1;g0,30,0,1,0;g0,1,0,1,2;").law(-1), 1);
-        due("13 but one", laid("n6;g0,5,0,1,4;g0,9,0,1,5;g0,9,0,1,1;g0,30,0,1,0;g0,1,0,1,3;").law(-1), 0);
-        due("13 but the first", laid("n6;g0,5,0,1,3;g0,9,0,1,5;g0,9,0,1,1;g0,30,0,1,0;g0,1,0,1,2;").law(-1), 0);
-        BedsBySnore hours = laid("n3;g2,9,0,1,0;g0,4,0,1,2;");
+        due("13 by the law", Inns.laid("n6;g0,5,0,1,4;g0,9,0,1,5;g0,9,0,1,1;g0,30,0,1,0;g0,1,0,1,2;").law(-1), 1);
+        due("13 but one", Inns.laid("n6;g0,5,0,1,4;g0,9,0,1,5;g0,9,0,1,1;g0,30,0,1,0;g0,1,0,1,3;").law(-1), 0);
+        due("13 but the first", Inns.laid("n6;g0,5,0,1,3;g0,9,0,1,5;g0,9,0,1,1;g0,30,0,1,0;g0,1,0,1,2;").law(-1), 0);
+        BedsBySnore hours = Inns.laid("n3;g2,9,0,1,0;g0,4,0,1,2;");
         due("13 in hour 0", hours.law(-1), 1);
         hours.hour();
         due("13 in hour 1", hours.law(-1), 0);
@@ -383,20 +363,20 @@ public final class PromisesTest {
         due("14 none is needed", x.moves(0), 0);
         due("14 there is no first one", x.moves(1), NONE);
         // all wake by porters: nobody can be carried past another
-        BedsBySnore stuck = laid("n3;g0,1,0,1,0;g0,2,0,1,1;c1;");
+        BedsBySnore stuck = Inns.laid("n3;g0,1,0,1,0;g0,2,0,1,1;c1;");
         due("14 no way", stuck.moves(0), NONE);
         due("14 no first one", stuck.moves(1), NONE);
         due("14 BAD goes ahead of NONE", stuck.moves(2), BAD);
-        BedsBySnore free = laid("n3;g0,1,0,2,0;g0,2,0,2,1;c1;");
+        BedsBySnore free = Inns.laid("n3;g0,1,0,2,0;g0,2,0,2,1;c1;");
         due("14 past one who sleeps on", free.moves(0), 2);
         due("14 first", free.moves(1), 2);
-        due("14 from one end to the other", laid("n6;g0,9,0,9,5;").moves(0), 1);
+        due("14 from one end to the other", Inns.laid("n6;g0,9,0,9,5;").moves(0), 1);
         // either may go first: the lower guest does; he has one way alone
-        BedsBySnore two = laid("n6;g0,9,0,9,1;g0,8,0,9,4;c0;");
+        BedsBySnore two = Inns.laid("n6;g0,9,0,9,1;g0,8,0,9,4;c0;");
         due("14 two carries", two.moves(0), 2);
         due("14 the lower guest first", two.moves(1), 0);
         // 0 and 1 change beds by way of 1, 2 or 3: the lowest guest to the lowest bed
-        BedsBySnore swap = laid("n5;g0,8,0,9,0;g0,9,0,9,4;c0;");
+        BedsBySnore swap = Inns.laid("n5;g0,8,0,9,0;g0,9,0,9,4;c0;");
         due("14 three carries", swap.moves(0), 3);
         due("14 the lowest bed first", swap.moves(1), 1);
     }
@@ -415,13 +395,13 @@ public final class PromisesTest {
         due("15 best(FAR, DEEP)", x.best(FAR, DEEP), BAD);
         due("15 nothing changes", x.bed(1), 1);
         // apart from one another: first 0 in bed 0, 1 in bed 2
-        BedsBySnore apart = laid("n4;g0,9,0,1,3;g2,9,0,1,2;r5;");
+        BedsBySnore apart = Inns.laid("n4;g0,9,0,1,3;g2,9,0,1,2;r5;");
         due("15 apart", apart.best(0, -1), 0);
         due("15 0's bed", apart.best(0, 0), 0);
         due("15 1's bed", apart.best(0, 1), 2);
-        due("15 alone in the first bed", laid("n2;g0,9,0,1,1;").best(7, 0), 0);
+        due("15 alone in the first bed", Inns.laid("n2;g0,9,0,1,1;").best(7, 0), 0);
         // all wake by anybody: of five in six beds but one can lie alone
-        BedsBySnore light = laid("g0,30,0,1,0;g0,30,0,1,1;g0,30,0,1,2;g0,30,0,1,3;g0,30,0,1,4;");
+        BedsBySnore light = Inns.laid("g0,30,0,1,0;g0,30,0,1,1;g0,30,0,1,2;g0,30,0,1,3;g0,30,0,1,4;");
         due("15 four of five wake", light.best(0, -1), 4);
         due("15 the last one lies alone first of all", light.best(0, 3) * 10 + light.best(0, 4), 35);
         // 1 wakes by anybody, so he is to lie alone; 0 and 2 bear one another
@@ -435,7 +415,7 @@ public final class PromisesTest {
     }
 
     private static void bestIs(String text, int hour, int woken, int beds) {
-        BedsBySnore x = laid(text);
+        BedsBySnore x = Inns.laid(text);
         due("15 how many of " + text, x.best(hour, -1), woken);
         due("15 beds of " + text, x.best(hour, 0) * 100 + x.best(hour, 1) * 10 + x.best(hour, 2), beds);
     }
@@ -449,17 +429,17 @@ public final class PromisesTest {
         due("16 wallTo(FAR)", x.wallTo(FAR), BAD);
         due("16 nothing changes", x.count(3), 1);
         // between 0 and 1 it helps both in all hours: 8 wakings of the far ones are left
-        BedsBySnore y = laid("n6;g0,6,0,4,1;g0,6,0,4,2;g0,9,0,4,4;g0,9,0,4,5;r5;");
+        BedsBySnore y = Inns.laid("n6;g0,6,0,4,1;g0,6,0,4,2;g0,9,0,4,4;g0,9,0,4,5;r5;");
         due("16 all wake", y.night(-1), 32);
         due("16 the wall behind bed 1", y.wallTo(0), 1);
         due("16 how many then", y.wallTo(1), 16);
         y.stuff(1);
         due("16 none helps: the first that is not", y.wallTo(0), 0);
         due("16 as many as now", y.wallTo(1), 16);
-        BedsBySnore last = laid("n6;g0,6,0,4,5;g0,6,0,4,4;r5;");
+        BedsBySnore last = Inns.laid("n6;g0,6,0,4,5;g0,6,0,4,4;r5;");
         due("16 the last wall", last.wallTo(0), 4);
         due("16 nobody then", last.wallTo(1), 0);
-        BedsBySnore z = laid("n3;g0,6,0,4,1;w0;w1;");
+        BedsBySnore z = Inns.laid("n3;g0,6,0,4,1;w0;w1;");
         due("16 all are stuffed", z.wallTo(0), NONE);
         due("16 all are stuffed, how many", z.wallTo(1), NONE);
         due("16 BAD goes ahead of NONE", z.wallTo(2), BAD);
@@ -469,7 +449,7 @@ public final class PromisesTest {
 
     private static void promise17Within() {
         // loud 4, 9, 20 in four beds
-        BedsBySnore x = laid("n4;g0,4,0,1,0;g0,9,0,1,1;g0,20,0,1,2;");
+        BedsBySnore x = Inns.laid("n4;g0,4,0,1,0;g0,9,0,1,1;g0,20,0,1,2;");
         due("17 any", x.within(40, -1), 24);
         due("17 within 16", x.within(16, -1), 24);
         // one bed is empty; 4 and 20 (0 and 2) must not be next: of 24 ways 2 * (3 * 2) have them next
@@ -488,10 +468,10 @@ public final class PromisesTest {
         due("17 within(41, 0)", x.within(41, 0), BAD);
         due("17 within(0, -2)", x.within(0, -2), BAD);
         due("17 within(FAR, FAR)", x.within(FAR, FAR), BAD);
-        BedsBySnore y = laid("n2;g2,30,0,1,1;");
+        BedsBySnore y = Inns.laid("n2;g2,30,0,1,1;");
         due("17 one guest", y.within(0, -1), 2);
         due("17 one guest, first", y.within(0, 0), 0);
-        BedsBySnore z = laid("n3;g2,6,0,1,1;g0,0,0,1,0;");
+        BedsBySnore z = Inns.laid("n3;g2,6,0,1,1;g0,0,0,1,0;");
         due("17 in hour 0 apart", z.within(0, -1), 2);
         z.hour();
         due("17 in hour 1 alike", z.within(0, -1), 6);
@@ -544,7 +524,7 @@ public final class PromisesTest {
 
     private static void promise21Feigned() {
         // 0 wakes by 15 or more of 1: 10 as he is, 20 if he feigns, in hours 0 to 2
-        BedsBySnore x = laid("n3;g0,10,0,15,0;g0,10,0,15,1;r5;");
+        BedsBySnore x = Inns.laid("n3;g0,10,0,15,0;g0,10,0,15,1;r5;");
         due("21 nothing was heard", x.feigned(), 3);
         x.heard(0, 2, 1);
         due("21 0 woke: 1 feigned", x.feigned(), 2);
@@ -553,17 +533,17 @@ public final class PromisesTest {
         x.heard(0, 3, 1);
         due("21 not by feigning in hour 3", x.feigned(), 0);
         // who is told to feign is plain, unless he is the one
-        BedsBySnore y = laid("n3;g3,10,0,15,0;g0,10,0,15,1;r5;");
+        BedsBySnore y = Inns.laid("n3;g3,10,0,15,0;g0,10,0,15,1;r5;");
         y.heard(1, 0, 0);
         due("21 1 did not wake: 0 did not feign", y.feigned(), 2);
         // a drunk or fitful one who feigns is not drunk or fitful then; else he is
-        BedsBySnore z = laid("n4;g1,10,0,30,0;g0,1,0,24,1;g2,30,0,40,3;r5;");
+        BedsBySnore z = Inns.laid("n4;g1,10,0,30,0;g0,1,0,24,1;g2,30,0,40,3;r5;");
         z.heard(1, 0, 1);
         due("21 drunk 24 wakes, feigning 20 does not", z.feigned(), 2 + 4);
         z.forget();
         z.heard(1, 0, 0);
         due("21 the other way round", z.feigned(), 1);
-        BedsBySnore now = laid("n4;g0,10,0,15,0;g0,10,0,15,1;r5;");
+        BedsBySnore now = Inns.laid("n4;g0,10,0,15,0;g0,10,0,15,1;r5;");
         now.heard(0, 0, 1);
         now.carry(1, 3);
         due("21 as all lie now", now.feigned(), 0);
@@ -573,7 +553,7 @@ public final class PromisesTest {
 
     private static void promise22Hums() {
         // notes in a row: 1 6 4 9 0, the room's is 5: 1-6 differ by it; 4-9 too; 9-0 no; 6-4 no
-        BedsBySnore x = laid("n6;g0,0,1,1,0;g0,0,6,1,1;g0,0,4,1,2;g0,0,9,1,3;g0,0,0,1,4;r5;");
+        BedsBySnore x = Inns.laid("n6;g0,0,1,1,0;g0,0,6,1,1;g0,0,4,1,2;g0,0,9,1,3;g0,0,0,1,4;r5;");
         int[] with = {2, 1, 8, 4, 0};
         for (int i = 0; i < with.length; i++) {
             due("22 hums(" + i + ")", x.hums(i), with[i]);
@@ -581,10 +561,10 @@ public final class PromisesTest {
         x.carry(0, 5);
         due("22 not next to him now", x.hums(1), 0);
         // 0 and 5 differ by it and are it together
-        BedsBySnore y = laid("n4;g0,0,0,1,0;g0,0,5,1,1;g0,0,0,1,2;r5;");
+        BedsBySnore y = Inns.laid("n4;g0,0,0,1,0;g0,0,5,1,1;g0,0,0,1,2;r5;");
         due("22 both sides", y.hums(1), 1 + 4);
-        due("22 together", laid("n3;g0,0,2,1,0;g0,0,3,1,1;r5;").hums(0), 2);
-        due("22 alike, room's note 0", laid("n3;g0,0,9,1,0;g0,0,9,1,1;r0;").hums(1), 1);
+        due("22 together", Inns.laid("n3;g0,0,2,1,0;g0,0,3,1,1;r5;").hums(0), 2);
+        due("22 alike, room's note 0", Inns.laid("n3;g0,0,9,1,0;g0,0,9,1,1;r0;").hums(1), 1);
         due("22 hums(-1)", x.hums(-1), BAD);
         due("22 hums(5)", x.hums(5), BAD);
         due("22 hums(FAR)", x.hums(FAR), BAD);
@@ -598,25 +578,25 @@ public final class PromisesTest {
 
     private static void promise23Odds() {
         // 1 lies between 6 and 7 loud: either wakes by 6, both alone by 13, neither by 14
-        BedsBySnore either = laid("n4;g0,6,0,40,0;g0,0,0,6,1;g0,7,0,40,2;r5;");
+        BedsBySnore either = Inns.laid("n4;g0,6,0,40,0;g0,0,0,6,1;g0,7,0,40,2;r5;");
         oddsAre(either, 1, 0, 1, 1);
         oddsAre(either, 1, 10, 0, 1);
         oddsAre(either, 1, 5, 1, 4);
         oddsAre(either, 1, 3, 49, 100);
         oddsAre(either, 1, 4, 9, 25);
         oddsAre(either, 0, 10, 1, 1);
-        BedsBySnore one = laid("n4;g0,6,0,40,0;g0,0,0,7,1;g0,7,0,40,2;r5;");
+        BedsBySnore one = Inns.laid("n4;g0,6,0,40,0;g0,0,0,7,1;g0,7,0,40,2;r5;");
         oddsAre(one, 1, 3, 7, 10);
-        BedsBySnore both = laid("n4;g0,6,0,40,0;g0,0,0,13,1;g0,7,0,40,2;r5;");
+        BedsBySnore both = Inns.laid("n4;g0,6,0,40,0;g0,0,0,13,1;g0,7,0,40,2;r5;");
         oddsAre(both, 1, 3, 91, 100);
         oddsAre(both, 1, 10, 0, 1);
-        BedsBySnore neither = laid("n4;g0,6,0,40,0;g0,0,0,14,1;g0,7,0,40,2;r5;");
+        BedsBySnore neither = Inns.laid("n4;g0,6,0,40,0;g0,0,0,14,1;g0,7,0,40,2;r5;");
         oddsAre(neither, 1, 7, 1, 1);
         // nothing at all is heard from an empty bed
-        oddsAre(laid("n3;g0,6,0,40,0;g0,0,0,7,1;r5;"), 1, 10, 1, 1);
+        oddsAre(Inns.laid("n3;g0,6,0,40,0;g0,0,0,7,1;r5;"), 1, 10, 1, 1);
         // who does not snore does not hum: 4 are heard by the chance of 2 of ten
-        oddsAre(laid("n3;g0,0,0,40,0;g0,0,5,4,1;r5;"), 1, 2, 4, 5);
-        BedsBySnore hours = laid("n3;g2,9,0,40,0;g0,0,0,9,1;r5;");
+        oddsAre(Inns.laid("n3;g0,0,0,40,0;g0,0,5,4,1;r5;"), 1, 2, 4, 5);
+        BedsBySnore hours = Inns.laid("n3;g2,9,0,40,0;g0,0,0,9,1;r5;");
         oddsAre(hours, 1, 6, 2, 5);
         hours.hour();
         oddsAre(hours, 1, 6, 1, 1);
@@ -627,7 +607,7 @@ public final class PromisesTest {
     }
 
     private static void promise24Steps() {
-        BedsBySnore x = laid("n6;g0,0,0,1,0;g0,0,0,8,1;g0,0,0,9,2;g0,0,0,7,3;");
+        BedsBySnore x = Inns.laid("n6;g0,0,0,1,0;g0,0,0,8,1;g0,0,0,9,2;g0,0,0,7,3;");
         x.carry(0, 5);
         x.carry(1, 4);
         x.carry(1, 1);
@@ -661,16 +641,16 @@ public final class PromisesTest {
 
     private static void promise25Day() {
         String text = "n5;g1,30,6,40,0;g1,30,6,39,4;g2,30,1,30,2;g3,30,6,8,1;r0;c40;";
-        BedsBySnore x = laid(text);
+        BedsBySnore x = Inns.laid(text);
         due("25 day(0, 9, 1)", x.day(0, 9, 1), 3);
         due("25 day(77, 30, 0)", x.day(77, 30, 0), 11);
         due("25 nothing changes", x.steps(1) + x.count(2) + x.count(5), 0);
         for (int z = 0; z < 10000; z += 1111) {
             for (int n = 1; n <= 30; n += 7) {
-                dayIs(laid(text), z, n);
+                dayIs(Inns.laid(text), z, n);
             }
         }
-        BedsBySnore later = laid(text);
+        BedsBySnore later = Inns.laid(text);
         later.hour();
         later.carry(1, 3);
         later.carry(0, 4);
@@ -722,7 +702,7 @@ public final class PromisesTest {
     }
 
     private static void promise28Count() {
-        BedsBySnore x = laid("n4;g0,0,0,1,0;g0,0,0,1,1;w0;w2;");
+        BedsBySnore x = Inns.laid("n4;g0,0,0,1,0;g0,0,0,1,1;w0;w2;");
         x.stuff(1);
         x.hour();
         x.hour();

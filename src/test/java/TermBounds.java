@@ -336,6 +336,9 @@ final class TermBounds {
         movesAre("n3;g0,9,0,40,2;g0,5,0,40,1;c39;", 2, 0);
         // all wake by porters, but nobody has to go past another
         movesAre("g0,9,0,1,1;g0,8,0,1,5;g0,7,0,1,2;g0,6,0,1,4;g0,5,0,1,3;c40;", 3, 0);
+        // from the first way of all to lie, and from the last one
+        movesAre("n3;g0,5,0,9,0;g0,9,0,9,1;c8;", 2, 2);
+        movesAre("g0,9,0,9,5;g0,8,0,9,4;g0,7,0,9,3;g0,6,0,9,2;g0,5,0,9,1;c8;", 5, 0);
         BedsBySnore x = Inns.laid("n3;g2,9,0,9,0;g0,5,0,9,2;c8;");
         said.due("moves(0) in hour 0", x.moves(0), 0);
         x.hour();
